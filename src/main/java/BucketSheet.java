@@ -1084,7 +1084,11 @@ public final class BucketSheet {
             return last;
         }
 
-        /** What is wrong with a PACKET under the REGION from start on as next comes; 0: it has landed. */
+        /**
+         * What is wrong with a PACKET under the REGION from start on as next comes; 0: it has landed. Where a REGION of
+         * next has GATES of two PACKETS, each of these has GATES of two REGIONS as well, so it SPLITS first: what MIXES
+         * is all HIGH alone.
+         */
         int fare(int word, int start, int next) {
             int last = lastOfRegion(word, start);
             int touched = 0;
@@ -1102,8 +1106,7 @@ public final class BucketSheet {
                 return MIXES;
             }
             landed = firstOfRegion(next, gate);
-            boolean hasOther = landed <= last - phases || lastOfRegion(next, gate) >= start + phases;
-            return hasOther ? MIXES : 0;
+            return 0;
         }
 
         /** THE ROUND, whose first WORD is good, once through, up to what is wrong first. */

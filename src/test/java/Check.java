@@ -76,13 +76,18 @@ final class Check {
         long of(BucketSheet x, int n);
     }
 
+    /** A text as feed() takes it, blanks behind it. */
+    static long[] eights(String text) {
+        long[] eights = new long[(text.length() + 7) / 8];
+        for (int i = 0; i < 8 * eights.length; i++) {
+            eights[i / 8] = eights[i / 8] << 8 | (i < text.length() ? text.charAt(i) & 255 : ' ');
+        }
+        return eights;
+    }
+
     /** Feeds a text and cuts it to its length. */
     static void feed(BucketSheet x, String text) {
-        for (int i = 0; i < text.length(); i += 8) {
-            long v = 0;
-            for (int j = i; j < i + 8; j++) {
-                v = v << 8 | (j < text.length() ? text.charAt(j) & 255 : ' ');
-            }
+        for (long v : eights(text)) {
             x.feed(v);
         }
         x.end(text.length());

@@ -21,6 +21,7 @@ public final class GatesEdgesTest {
         fewest();
         roundsBounds();
         roundsAtTheirEdges();
+        phasesChange();
         CHECK.end();
     }
 
@@ -352,6 +353,24 @@ public final class GatesEdgesTest {
         }
         // more than an int holds
         CHECK.due("rounds(7, 12, 0) of 4 is above 2^31", of(4).rounds(7, 12, 0) > Integer.MAX_VALUE ? 1 : 0, 1);
+    }
+
+    /** 3, 4, 3, 4 phases by one text after another: all is as of new objects. */
+    private static void phasesChange() {
+        CHECK.says("6 phases (3, 4; 3)");
+        BucketSheet x = new BucketSheet();
+        for (int i = 0; i < 4; i++) {
+            int phases = 3 + i % 2;
+            Check.tell(x, "phases " + phases + ";");
+            BucketSheet fresh = of(phases);
+            CHECK.due("word(8)", x.word(8), phases == 3 ? BucketSheet.BAD : 1);
+            for (int first = 0; first < 1 << phases; first++) {
+                CHECK.due("rounds(" + first + ", 5, 0) of " + phases, x.rounds(first, 5, 0), fresh.rounds(first, 5, 0));
+                CHECK.due("rounds(" + first + ", 5, 1) of " + phases, x.rounds(first, 5, 1), fresh.rounds(first, 5, 1));
+                CHECK.due("goes(" + first + ", 3) of " + phases, x.goes(first, 3), fresh.goes(first, 3));
+            }
+            CHECK.due("fewest(1)", x.fewest(1), 3);
+        }
     }
 
     /** Of 3 phases a WORD has one REGION a well: a PACKET is wherever its WORD is. */

@@ -154,6 +154,18 @@ public final class PictureEdgesTest {
                 x.light(0, 50);
                 x.expose(1);
                 shades("the last one", x, v, h, 50, 0, 50, 0);
+                // the first one: ROW 5, COLUMN 7
+                x = lit("gain 1 1;", 0);
+                x.light(47, 50);
+                x.expose(1);
+                shades("the first one", x, v, h, 50, 0, 50, 0);
+                // all but the last one
+                x = lit("cap 999;", 0);
+                for (int w = 0; w < 48; w++) {
+                    x.light(w, w / 8 < v && (7 - w % 8) / h == columns[h - 1] - 1 ? 0 : 99);
+                }
+                x.expose(4);
+                shades("all but the last one", x, v, h, 255, 0, 255 * (all - 1), all - 1);
                 // all but the first one
                 x = lit("cap 999;", 0);
                 for (int w = 0; w < 48; w++) {
@@ -170,6 +182,14 @@ public final class PictureEdgesTest {
             x.expose(1);
             shades("254 is not 255", x, 1, 1, Math.min(255, value), 0, Math.min(255, value), value > 254 ? 1 : 0);
         }
+        // THE PICTURE has its smear and its TRAPS: 1 of ROW 4 is held and comes as ROW 3, smear of 2 falls on ROWS 4 to 0
+        BucketSheet x = CHECK.told("smear 2;trap 47 1;");
+        x.light(39, 1);
+        x.expose(1);
+        x.light(39, 0);
+        shades("held", x, 1, 1, 1, 0, 1, 0);
+        x.light(47, 1);
+        shades("held and smeared", x, 1, 1, 3, 0, 11, 0);
     }
 
     private static void shades(String when, BucketSheet x, int v, int h, int... want) {
@@ -332,6 +352,10 @@ public final class PictureEdgesTest {
         CHECK.due("enough(1) of cap 98", coming(98, 3, 99).enough(1), BucketSheet.NONE);
         CHECK.due("enough(1) of cap 99", coming(99, 3, 99).enough(1), 1);
         CHECK.due("enough(99) of cap 99", coming(99, 3, 99).enough(99), 1);
+        // without any WELL with LIGHT one TICK is the fewest, if none gets above cap by it
+        CHECK.due("enough(999) without LIGHT", new BucketSheet().enough(999), 1);
+        CHECK.due("enough(1) without LIGHT at cap", CHECK.told("cap 9;dark 9;").enough(1), 1);
+        CHECK.due("enough(1) without LIGHT above cap", CHECK.told("cap 8;dark 9;").enough(1), BucketSheet.NONE);
         // a WELL without LIGHT need not have n
         x = CHECK.told("cap 100;hot 9 1;");
         x.light(0, 10);

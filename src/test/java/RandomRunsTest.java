@@ -60,11 +60,7 @@ public final class RandomRunsTest {
     }
 
     private static void feed(Model model, String text) {
-        for (int i = 0; i < text.length(); i += 8) {
-            long v = 0;
-            for (int j = i; j < i + 8; j++) {
-                v = v << 8 | (j < text.length() ? text.charAt(j) & 255 : ' ');
-            }
+        for (long v : Check.eights(text)) {
             model.feed(v);
         }
         model.end(text.length());

@@ -68,6 +68,21 @@ public final class TextEdgesTest {
         CHECK.says("As told at first; THE ROUND has no WORDS; SHEETS of nothing.");
         CHECK.alike("an empty text is as at first", BucketSheet::new, () -> CHECK.told(""));
         BucketSheet x = new BucketSheet();
+        int[] rules = {200, 0, 0, 0, 1, 1, 3};
+        for (int what = 0; what < 7; what++) {
+            CHECK.due("rule(" + what + ")", x.rule(what), rules[what]);
+            CHECK.due("now(" + what + ")", x.now(what), 0);
+            CHECK.due("count(" + what + ")", x.count(what), what == 5 ? BucketSheet.NONE : 0);
+        }
+        for (int w = 0; w < 48; w++) {
+            for (int what = 0; what < 5; what++) {
+                CHECK.due("well(" + w + ", " + what + ")", x.well(w, what), 0);
+            }
+            CHECK.due("line(" + w % 8 + ")", x.line(w % 8), 0);
+        }
+        CHECK.due("fault()", x.fault(), 0);
+        CHECK.due("torn()", x.torn(), 0);
+        CHECK.due("words(0)", x.words(0), BucketSheet.BAD);
         CHECK.due("text() of a new tape", x.text(), 0);
         CHECK.due("end(0) of a new tape", x.end(0), 0);
         CHECK.due("end(1) of a new tape", x.end(1), BucketSheet.BAD);
