@@ -6,6 +6,7 @@ public final class ChargeEdgesTest {
         {4, 3, 2, 1, 0}};
 
     public static void main(String[] args) {
+        rowsOfWells();
         ticks();
         comesIn();
         aboveCap();
@@ -19,7 +20,9 @@ public final class ChargeEdgesTest {
         trapsLetGo();
         smearComesThen();
         runsOverLikewise();
+        downOnce();
         placesGoOn();
+        readOnce();
         valueIsDividedDown();
         linePlaces();
         sums();
@@ -45,6 +48,36 @@ public final class ChargeEdgesTest {
         for (int i = 0; i < times; i++) {
             x.down();
         }
+    }
+
+    private static void rowsOfWells() {
+        CHECK.says("WELLS 0 to 47: 6 ROWS of 8 COLUMNS (WELL 8 times its ROW and its COLUMN; ROW 5 is the lowest).");
+        for (int w = 0; w < 48; w++) {
+            BucketSheet x = new BucketSheet();
+            x.light(w, 9);
+            x.expose(1);
+            // so many times down, then it is in THE LINE below its COLUMN
+            for (int r = w / 8; r < 6; r++) {
+                CHECK.due("well(" + (8 * r + w % 8) + ", 0) from " + w, x.well(8 * r + w % 8, 0), 9);
+                CHECK.due("now(1) from " + w, x.now(1), 0);
+                x.down();
+            }
+            CHECK.due("line(" + w % 8 + ") from " + w, x.line(w % 8), 9);
+            CHECK.due("now(0) from " + w, x.now(0), 0);
+        }
+        CHECK.says("Each has LIGHT (0 to 99 in a TICK; 0), a HOT part (0 to 99; 0), a TRAP (0 to 50; 0: none) and what that holds, CHARGE.");
+        BucketSheet x = CHECK.told("cap 999;hot 0 99;trap 9 50;row 99 99 0 0 0 0 0 0;");
+        x.expose(1);
+        x.down();
+        int[] wells = {8, 9, 10};
+        int[][] want = {{198, 0, 0, 0, 0}, {49, 0, 0, 50, 50}, {0, 0, 0, 0, 0}};
+        for (int i = 0; i < 3; i++) {
+            for (int what = 0; what < 5; what++) {
+                CHECK.due("well(" + wells[i] + ", " + what + ")", x.well(wells[i], what), want[i][what]);
+            }
+        }
+        CHECK.due("well(0, 1)", x.well(0, 1), 99);
+        CHECK.due("well(0, 2)", x.well(0, 2), 99);
     }
 
     private static void ticks() {
@@ -353,6 +386,46 @@ public final class ChargeEdgesTest {
         CHECK.due("well(16, 4)", x.well(16, 4), held);
         CHECK.due("now(0)", x.now(0), 0);
         return x;
+    }
+
+    private static void downOnce() {
+        CHECK.says("HANDED DOWN once: all CHARGE in THE LINE then.");
+        CHECK.due("down() of nothing", new BucketSheet().down(), 0);
+        BucketSheet x = CHECK.told("cap 10;dark 1;");
+        x.expose(10);
+        // 80 a ROW, twice cap is 160
+        int[] want = {80, 160, 160, 160, 160, 160, 160, 160};
+        for (int i = 0; i < 8; i++) {
+            CHECK.due("down() " + i, x.down(), want[i]);
+            CHECK.due("now(0) once down", x.now(0), Math.max(0, 400 - 80 * i));
+            CHECK.due("now(1) once down", x.now(1), want[i]);
+        }
+        CHECK.due("now(3)", x.now(3), 480 - 160);
+        // what is in THE LINE already counts, what a TRAP took does not
+        x = CHECK.told("trap 40 3;");
+        x.light(40, 1);
+        x.light(32, 5);
+        x.expose(1);
+        CHECK.due("down() of 1", x.down(), 1);
+        CHECK.due("down() of 2", x.down(), 3);
+        CHECK.due("down() of what was let go", x.down(), 6);
+        CHECK.due("down() of nothing more", x.down(), 6);
+    }
+
+    private static void readOnce() {
+        CHECK.says("READ once: the VALUE.");
+        CHECK.due("read() of nothing", new BucketSheet().read(), 0);
+        BucketSheet x = CHECK.told("gain 2 1;");
+        x.light(46, 3);
+        x.expose(1);
+        CHECK.due("read() ahead of down()", x.read(), 0);
+        x.down();
+        CHECK.due("read() of PLACE 7", x.read(), 0);
+        CHECK.due("line(7)", x.line(7), 3);
+        CHECK.due("read() of PLACE 6", x.read(), 6);
+        CHECK.due("now(4)", x.now(4), 3);
+        CHECK.due("read() behind all", x.read(), 0);
+        CHECK.due("now(4)", x.now(4), 3);
     }
 
     private static void placesGoOn() {

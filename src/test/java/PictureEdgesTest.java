@@ -264,6 +264,7 @@ public final class PictureEdgesTest {
         // the TRAP takes 1 of ROW 4 and lets it go behind, as ROW 3
         CHECK.due("spoiled(0) of 1", x.spoiled(0), 2);
         CHECK.due("spoiled(1) of 1", x.spoiled(1), 1);
+        CHECK.says("Of THE PICTURE of 1 by 1 as it is (1), as it would be without TRAPS and smear (0)");
         // the greatest difference is so by less as well as by more
         x = CHECK.told("trap 47 50;");
         for (int r = 0; r < 5; r++) {

@@ -18,6 +18,7 @@ public final class RefusedTest {
         sheets();
         reads();
         newObjects();
+        theFirstThatFits();
         asking();
         CHECK.end();
     }
@@ -266,6 +267,31 @@ public final class RefusedTest {
             CHECK.due("word(8)", x.word(8), BAD);
             return x;
         }, BucketSheet::new);
+    }
+
+    /** Where two answers would fit: BAD ahead of STATE, FULL, NONE and of what the machine finds. */
+    private static void theFirstThatFits() {
+        CHECK.says(", the first that fits; what is refused changes nothing");
+        refusedWhereFull("word(16) of a full round", BAD, x -> x.word(16));
+        refusedWhereFull("word(-1) of a full round", BAD, x -> x.word(-1));
+        refused("goes(5, 16)", BAD, x -> x.goes(5, 16));
+        refused("goes(16, 5)", BAD, x -> x.goes(16, 5));
+        refused("rounds(5, 13, 0)", BAD, x -> x.rounds(5, 13, 0));
+        refused("rounds(5, 12, 4)", BAD, x -> x.rounds(5, 12, 4));
+        refused("sheet(4, 0, -1)", BAD, x -> x.sheet(4, 0, -1));
+        refused("sheet(0, 3, -1)", BAD, x -> x.sheet(0, 3, -1));
+        refused("lay(4, -1, 0)", BAD, x -> x.lay(4, -1, 0));
+        refused("lay(3, -1, 0): NULL ahead of INDEX", -11, x -> x.lay(3, -1, 0));
+        refused("reads(4, 0, -1, 1)", BAD, x -> x.reads(4, 0, -1, 1));
+        refused("reads(3, 3, 0, 1)", BAD, x -> x.reads(3, 3, 0, 1));
+        refused("reads(0, 0, 4, 21)", BAD, x -> x.reads(0, 0, 4, 21));
+        BucketSheet x = new BucketSheet();
+        CHECK.due("clock(3) without WORDS", x.clock(3), BAD);
+        CHECK.due("back(2) without IMAGES", x.back(2), BAD);
+        CHECK.due("full(48) in the dark", x.full(48), BAD);
+        x = CHECK.told("cap 1;dark 9;");
+        CHECK.due("enough(0) above cap", x.enough(0), BAD);
+        CHECK.due("enough(1000) above cap", x.enough(1000), BAD);
     }
 
     private static void asks(String name, Call call) {

@@ -451,6 +451,7 @@ public final class TextEdgesTest {
 
     private static void behindAll() {
         CHECK.says("Behind all (the length): 6 a WORD above 7 with 3 phases.");
+        CHECK.says("phases 3: WORDS are looked at behind all.");
         taken("clock 7;", 1);
         taken("phases 3;clock 7;", 2);
         taken("phases 4;clock 15;", 2);
