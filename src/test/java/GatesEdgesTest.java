@@ -240,6 +240,19 @@ public final class GatesEdgesTest {
         CHECK.says("0 the first WORD at which something is wrong (0: from the last one to the first one; NONE), 1 what (1 SPILLS,"
             + " 2 SPLITS, 3 MIXES; 0), 2 CARRIED and 100 (NONE: something is wrong).");
         carries("one word, from itself to itself", of(3, 6), 0);
+        // what was wrong with an earlier ROUND is not asked of a later one
+        BucketSheet x = of(3, 1, 2);
+        wrongAt("1, 2", x, 1, SPILLS);
+        x.still();
+        x.word(3);
+        carries("3 behind what was wrong", x, 0);
+        x.word(7);
+        wrongAt("3, 7", x, 1, MIXES);
+        CHECK.due("goes(1, 2)", x.goes(1, 2), SPILLS);
+        Check.tell(x, "clock 3 6 5;");
+        carries("3, 6, 5 behind what was wrong", x, 1);
+        x.word(0);
+        wrongAt("3, 6, 5, 0", x, 3, SPILLS);
         carries("12 words alike", of(4, 6, 6, 6, 6, 6, 6, 6, 6, 6, 6, 6, 6), 0);
     }
 

@@ -171,6 +171,9 @@ public final class TextEdgesTest {
             CHECK.refused(blanks(place) + ".", 1, place);
             CHECK.refused(blanks(place) + ";" + blanks(399 - place), 2, place);
         }
+        for (int length = 0; length <= 400; length++) {
+            taken(blanks(length), 0);
+        }
         taken(blanks(394) + "drain;", 1);
         taken("drain;" + blanks(394), 1);
         taken("drain" + blanks(394) + ";", 1);
